@@ -191,12 +191,20 @@ final class DayTest {
         DUE.is(28, "paid", t.rest(0), 4);
         DUE.is(28, "dropped", t.rest(1), 3);
         DUE.is(28, "carried", t.rest(2), 0);
-        StringBuilder all = new StringBuilder("sort p 1; sort q 2; sort r 3; sort s 4; sort t 5; house a; house b;");
-        for (char m = 'c'; m < 'i'; m++) {
-            all.append("man ").append(m).append(m % 2 == 0 ? " a" : " b").append(": p 3, q 3, r 3, s 3, t 3;");
+        // Three pairs, each to and fro till all their things are left: as much as can ever be owed.
+        StringBuilder all = new StringBuilder("sort p 1; sort q 2; sort r 3; sort s 4; sort t 5;");
+        for (int i = 0; i < 6; i++) {
+            char house = (char) ('a' + i);
+            all.append("house ").append(house).append("; man ").append((char) ('g' + i)).append(' ').append(house)
+                    .append(": p 3, q 3, r 3, s 3, t 3;");
         }
-        t = Feeder.town(all + "call c a;".repeat(20));
-        DUE.is(28, "all that can be paid", t.rest(0) + t.rest(2), 90);
+        for (int i = 0; i < 20; i++) {
+            all.append("call ").append("gik".charAt(i % 3)).append(' ').append("bdf".charAt(i % 3)).append(';');
+        }
+        t = Feeder.town(all.toString());
+        DUE.is(28, "all that can be paid", t.rest(0), 90);
+        DUE.is(28, "as many are dropped as were told", t.rest(1), 20);
+        DUE.is(28, "nothing is carried", t.rest(2), 0);
     }
 
     public static void main(String[] args) {

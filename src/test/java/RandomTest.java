@@ -171,7 +171,7 @@ final class RandomTest {
     }
 
     public static void main(String[] args) {
-        int runs = args.length > 0 ? Integer.parseInt(args[0]) : 1500;
+        int runs = args.length > 0 ? Integer.parseInt(args[0]) : 1000;
         if (args.length > 1) {
             RANDOM.setSeed(Long.parseLong(args[1]));
         }
@@ -179,13 +179,13 @@ final class RandomTest {
             HallTables town = new HallTables();
             Model model = new Model();
             boolean wide = run % 10 == 0;
-            for (int text = 0; text < 2; text++) {
+            for (int text = 0; text < 4; text++) {
                 String told = wide ? town(5, 10, 3, 8, 6) : town(3, 5, 4, 7, 8);
                 if (RANDOM.nextInt(6) == 0) {
                     told = spoilt(told);
                 }
                 read(town, model, told.length() > 2000 ? "" : told);
-                for (int i = 0; i < 150; i++) {
+                for (int i = 0; i < 100; i++) {
                     ask(town, model, told, !wide);
                 }
             }
@@ -199,6 +199,128 @@ final class RandomTest {
                 DUE.is(35, "count" + w, town.count(w), model.count(w));
             }
         }
+        for (int run = 0; run < runs; run++) {
+            days(run % 4 == 0);
+            visits();
+        }
+        for (int run = 0; run < runs / 4; run++) {
+            ways(run % 20 == 0 ? 4 : 3);
+        }
         DUE.end();
+    }
+
+    private static String houses(int n) {
+        StringBuilder t = new StringBuilder();
+        for (int i = 0; i < n; i++) {
+            t.append("house ").append(name('h', i)).append(';');
+        }
+        return t.toString();
+    }
+
+    /** Many CALLS through few HOUSES, so that one way of a thing often stands in that of another. */
+    private static void days(boolean dear) {
+        int houses = 3 + upTo(3);
+        int men = 2 + upTo(4);
+        StringBuilder t = new StringBuilder("sort sa 1;").append(houses(houses));
+        int[] homes = new int[men];
+        for (int m = 0; m < men; m++) {
+            homes[m] = RANDOM.nextInt(houses);
+            t.append("man ").append(name('m', m)).append(' ').append(name('h', homes[m]))
+                    .append(":sa ").append(RANDOM.nextInt(3) == 0 ? 1 + upTo(1) : 0).append(';');
+        }
+        int calls = dear ? 7 : 11;
+        for (int i = 0; i < calls; i++) {
+            int m = RANDOM.nextInt(men);
+            int h = (homes[m] + 1 + RANDOM.nextInt(houses - 1)) % houses;
+            t.append("call ").append(name('m', m)).append(' ').append(name('h', h)).append(';');
+        }
+        HallTables town = new HallTables();
+        Model model = new Model();
+        read(town, model, t.toString());
+        for (int h = 0; h < houses; h++) {
+            DUE.is(24, "carried(0, " + h + ") in " + t, town.carried(0, h), model.carried(0, h));
+            for (int what = 0; what < 4 && dear && h < 3; what++) {
+                DUE.is(25, "helps(0, " + h + ", " + what + ") in " + t, town.helps(0, h, what), model.helps(0, h, what));
+            }
+            if (dear) {
+                DUE.is(26, "turned(0, " + h + ") in " + t, town.turned(0, h), model.turned(0, h));
+            }
+        }
+    }
+
+    private static void visits() {
+        int houses = 2 + upTo(2);
+        int men = 3 + upTo(2);
+        StringBuilder t = new StringBuilder("sort sa 3;sort sb 3;").append(houses(houses));
+        for (int m = 0; m < men; m++) {
+            t.append("man ").append(name('m', m)).append(' ').append(name('h', RANDOM.nextInt(houses)))
+                    .append(":sa ").append(upTo(2)).append(",sb ").append(upTo(2)).append(';');
+        }
+        t.append("worth hb sb ").append(upTo(6)).append(";law ").append(LAWS[RANDOM.nextInt(3)]).append(';');
+        HallTables town = new HallTables();
+        Model model = new Model();
+        read(town, model, t.toString());
+        for (int k = 0; k < 5; k++) {
+            int h = RANDOM.nextInt(houses);
+            int s = RANDOM.nextInt(2);
+            int n = RANDOM.nextInt(4);
+            DUE.is(29, "see in " + t, town.see(h, s, n), model.see(h, s, n));
+            for (int from = k; from <= k + 1; from++) {
+                DUE.is(31, "fits(" + from + ") in " + t, town.fits(from), model.fits(from));
+            }
+            for (int at = 0; at < houses; at++) {
+                DUE.is(32, "maybe at " + at + " in " + t, town.visitors(at, k + 1, false), model.visitors(at, k + 1, false));
+                DUE.is(32, "surely at " + at + " in " + t, town.visitors(at, k + 1, true), model.visitors(at, k + 1, true));
+            }
+        }
+    }
+
+    /** All HOUSES, many DOORS, hands of all kinds. */
+    private static void ways(int sorts) {
+        StringBuilder t = new StringBuilder();
+        for (int s = 0; s < sorts; s++) {
+            t.append("sort ").append(name('s', s)).append(' ').append(upTo(9)).append(';');
+        }
+        t.append(houses(10));
+        for (int i = 0; i < 20; i++) {
+            int a = i < 10 ? i : RANDOM.nextInt(10);
+            int b = (a + 1 + RANDOM.nextInt(9)) % 10;
+            t.append("door ").append(name('h', a)).append(' ').append(name('h', b)).append(' ').append(1 + upTo(20)).append(';');
+        }
+        for (int i = upTo(6); i > 0; i--) {
+            String cell = name('h', RANDOM.nextInt(10)) + " " + name('s', RANDOM.nextInt(sorts));
+            t.append("shop ").append(cell).append(";worth ").append(cell).append(' ').append(upTo(9)).append(';');
+        }
+        for (int m = 0; m < 2; m++) {
+            t.append("man ").append(name('m', m)).append(' ').append(name('h', RANDOM.nextInt(10)));
+            for (int s = 0; s < sorts; s++) {
+                t.append(s == 0 ? ':' : ',').append(name('s', s)).append(' ').append(upTo(3));
+            }
+            t.append(';');
+        }
+        t.append("law ").append(LAWS[RANDOM.nextInt(3)]).append(';');
+        HallTables town = new HallTables();
+        Model model = new Model();
+        read(town, model, t.toString());
+        for (int by = 0; by < 3; by++) {
+            int m = RANDOM.nextInt(2);
+            int h = RANDOM.nextInt(10);
+            int s = RANDOM.nextInt(sorts + 1) - 1;
+            for (int i = 0; i < 4; i++) {
+                DUE.is(16, "step " + m + " " + h + " " + s + " " + by + " " + i + " in " + t, town.step(m, h, s, by, i), model.step(m, h, s, by, i));
+            }
+            for (int what = 0; what < 4; what++) {
+                DUE.is(15, "way " + m + " " + h + " " + s + " " + by + " " + what + " in " + t, town.way(m, h, s, by, what), model.way(m, h, s, by, what));
+            }
+            for (int what = 0; what < 3; what++) {
+                DUE.is(17, "rid " + m + " " + by + " " + what + " in " + t, town.rid(m, 0, by, what), model.rid(m, 0, by, what));
+            }
+            DUE.is(18, "get " + m + " in " + t, town.get(m, by), model.get(m, by));
+            DUE.is(20, "most " + m + " " + h + " in " + t, town.most(m, h), model.most(m, h));
+            int set = RANDOM.nextInt(1024) & RANDOM.nextInt(1024);
+            DUE.is(23, "round " + m + " " + set + " in " + t, town.round(m, set), model.round(m, set));
+        }
+        DUE.is(21, "meet in " + t, town.meet(0, 1, 0), model.meet(0, 1, 0));
+        DUE.is(21, "meet in " + t, town.meet(1, 0, 1), model.meet(1, 0, 1));
     }
 }

@@ -116,6 +116,17 @@ final class SeenTest {
         DUE.is(31, "and none at b", t.fits(7), 720);
         t.see(0, 0, 1);
         DUE.is(31, "a seventh", t.fits(8), 0);
+        t.forget();
+        for (int cell = 0; cell < 30; cell++) {
+            t.see(cell / 5, cell % 5, 3);
+        }
+        DUE.is(31, "ninety things", t.fits(30), 0);
+        DUE.is(31, "six things at two tables", t.fits(2), 0);
+        DUE.is(32, "no one", t.visitors(1, 30, true), 0);
+        t.forget();
+        t.see(9, 3, 3);
+        t.see(9, 4, 3);
+        DUE.is(31, "three and three of six", t.fits(2), 20);
     }
 
     public static void main(String[] args) {

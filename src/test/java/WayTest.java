@@ -186,7 +186,54 @@ final class WayTest {
         DUE.is(23, "from c with nothing", t.round(0, 4), -2);
     }
 
+    /** As many steps as there can be at one place: nine HOUSES, five SORTS, five to be bought. */
+    private static void allSteps() {
+        StringBuilder text = new StringBuilder("sort p 9; sort q 9; sort r 9; sort s 9; sort t 0; house a; house b;"
+                + "house c; house d; house e; house f; house g; house h; house i; house j;");
+        for (char house = 'b'; house <= 'j'; house++) {
+            text.append("door a ").append(house).append(" 7;");
+        }
+        for (char sort = 'p'; sort <= 't'; sort++) {
+            text.append("shop a ").append(sort).append(';');
+        }
+        HallTables t = Feeder.town(text + "man m a: p 1, q 1, r 1, s 1; man n a: p 1, q 1, r 1, s 1, t 1; worth j p 8;");
+        way(t, 0, 9, 4, 0, sums(1, 8, 8), 104, 90);
+        way(t, 1, 9, -1, 0, sums(1, 7, 8), 90);
+        way(t, 1, 9, -1, 2, sums(1, 7, 0), 94);
+        way(t, 1, 9, 0, 0, sums(1, 7, 9), 91);
+        DUE.is(20, "all that can be had", t.most(0, 0), 15);
+        DUE.is(20, "but one", t.most(1, 9), 14);
+        DUE.is(19, "all houses", t.inReach(0), 1023);
+        DUE.is(21, "at home", t.meet(0, 1, 1), 0);
+        t = Feeder.town(text + "man m a;");
+        DUE.is(16, "a step asked of a new object: one to leave, one to keep", t.step(0, 9, 4, 1, 1), 104);
+    }
+
+    /** Nothing of a town stays when others come in its place. */
+    private static void otherTowns() {
+        String[] towns = {"sort s 1; house a; house b; door a b 5; shop a s; worth b s 4; hall b s 2; man m a; call m b; law dearest;",
+            "sort s 2; house a; house b; house c; door a c 1; man m a: s 1;", "sort s 3; house a; house b; man m a;"};
+        HallTables t = new HallTables();
+        for (int i = 0; i < 9; i++) {
+            int town = i % 3;
+            DUE.is(4, "read", Feeder.read(t, towns[town]), 0);
+            int[] reach = {3, 5, 1};
+            DUE.is(19, "inReach in town " + town, t.inReach(0), reach[town]);
+            DUE.is(13, "buy in town " + town, t.buy(0, 0), town == 0 ? 0 : 1);
+            DUE.is(14, "undo in town " + town, t.undo(), town == 0);
+            DUE.is(7, "worth in town " + town, t.worth(1, 0), new int[] {4, 2, 3}[town]);
+            DUE.is(6, "door in town " + town, t.door(0, 1), new int[] {5, 0, 0}[town]);
+            DUE.is(8, "table in town " + town, t.table(1, 0), new int[] {2, 0, 0}[town]);
+            DUE.is(35, "doors in town " + town, t.count(2), new int[] {1, 1, 0}[town]);
+            DUE.is(35, "calls in town " + town, t.count(4), new int[] {1, 0, 0}[town]);
+            DUE.is(35, "law in town " + town, t.count(5), new int[] {1, 0, 0}[town]);
+            DUE.is(28, "dropped in town " + town, t.rest(1), new int[] {1, 0, 0}[town]);
+        }
+    }
+
     public static void main(String[] args) {
+        allSteps();
+        otherTowns();
         ways();
         order();
         lawfulWays();
