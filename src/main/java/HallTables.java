@@ -12,8 +12,8 @@ public final class HallTables {
     private static final int MOST_OF_ONE = 3;
     private static final int SLOTS = 3;
 
-    private final Text text = new Text();
     private final Teller teller = new Teller();
+    private final Text text = teller.text;
     private final Stand now = new Stand();
     private final Stand[] slots = new Stand[SLOTS];
     private final Track track = new Track();
@@ -23,7 +23,6 @@ public final class HallTables {
     private final Chance chance = new Chance();
     private final Visits visits = new Visits();
     private Town town = new Town();
-    private Town spareTown = new Town();
 
     public HallTables() {
         for (int slot = 0; slot < SLOTS; slot++) {
@@ -54,7 +53,7 @@ public final class HallTables {
     public int read() {
         text.check();
         if (text.fault == Text.NO_FAULT) {
-            teller.tellAll(text, spareTown);
+            teller.tellAll();
         }
         text.length = 0;
         if (text.fault == Text.NO_FAULT) {
@@ -65,9 +64,7 @@ public final class HallTables {
 
     /** The town just told comes in place of the one ahead, with nothing of what happened there. */
     private void moveIn() {
-        Town old = town;
-        town = spareTown;
-        spareTown = old;
+        town = teller.exchange(town);
         now.begin(town);
         track.clear();
         visits.clear();
@@ -225,7 +222,7 @@ public final class HallTables {
             return NONE;
         }
         ways.startWith(town, now, man);
-        ways.findAll();
+        ways.find(Ways.MINUTES, Ways.TO_ALL, NONE, NONE);
         return ways.housesFound();
     }
 
@@ -234,7 +231,7 @@ public final class HallTables {
             return NONE;
         }
         ways.startWith(town, now, man);
-        ways.findAll();
+        ways.find(Ways.MINUTES, Ways.TO_ALL, NONE, NONE);
         return ways.mostAt(house);
     }
 
@@ -245,10 +242,10 @@ public final class HallTables {
         int[] sum = ways.together;
         Arrays.fill(sum, 0);
         ways.startWith(town, now, man);
-        ways.findAll();
+        ways.find(Ways.MINUTES, Ways.TO_ALL, NONE, NONE);
         ways.addMinutes();
         ways.startWith(town, now, other);
-        ways.findAll();
+        ways.find(Ways.MINUTES, Ways.TO_ALL, NONE, NONE);
         ways.addMinutes();
         int best = NEVER;
         for (int house = 0; house < town.houses; house++) {
@@ -659,13 +656,18 @@ public final class HallTables {
 
     /** Tells a town from TOKENS that are in order, up to the first FAULT of TWICE, NAME or WRONG. */
     private static final class Teller {
-        private Text text = null;
-        private Town town = null;
+        final Text text = new Text();
+        private Town town = new Town();
         private int at;
 
-        void tellAll(Text newText, Town newTown) {
-            text = newText;
-            town = newTown;
+        /** The town that is told; the other one is made anew by the next text. */
+        Town exchange(Town old) {
+            Town told = town;
+            town = old;
+            return told;
+        }
+
+        void tellAll() {
             town.clear();
             at = 0;
             for (int i = 0; i < Text.TOKENS && at < text.tokens && text.fault == Text.NO_FAULT; i++) {
@@ -1095,20 +1097,14 @@ public final class HallTables {
         }
     }
 
-    /** The least of some states first, by keys that others hold. */
+    /** The states that wait, the one with the least key first. */
     private static final class Heap {
         private static final int MOST_LEVELS = 20;
 
         int size;
-        private final long[] key;
-        private final int[] item;
-        private final int[] spot;
-
-        Heap(long[] keys) {
-            key = keys;
-            item = new int[keys.length];
-            spot = new int[keys.length];
-        }
+        final long[] key = new long[Ways.STATES];
+        private final int[] item = new int[Ways.STATES];
+        private final int[] spot = new int[Ways.STATES];
 
         /** A state comes in. */
         void add(int state) {
@@ -1181,14 +1177,15 @@ public final class HallTables {
 
         private static final int HAND_BITS = 2 * MAX_SORTS;
         private static final int HAND = (1 << HAND_BITS) - 1;
-        private static final int STATES = MAX_HOUSES << HAND_BITS;
+        static final int STATES = MAX_HOUSES << HAND_BITS;
         private static final int AT_HOME = 9;
         private static final int BUY = 100;
         private static final long UNSEEN = -1;
 
         final int[] sums = new int[SUMS];
         final int[] together = new int[MAX_HOUSES];
-        private Town town = null;
+        /** An empty one at first: no reference is ever null. */
+        private Town town = new Town();
         private int home;
         private int start;
         private int by;
@@ -1200,8 +1197,8 @@ public final class HallTables {
         private int settled;
         private int steps;
         private final int[] codes = new int[MAX_HOUSES * MAX_SORTS + MAX_SORTS];
-        private final long[] key = new long[STATES];
-        private final Heap heap = new Heap(key);
+        private final Heap heap = new Heap();
+        private final long[] key = heap.key;
         private final int[] order = new int[STATES];
         private final byte[] good = new byte[STATES];
 
@@ -1220,10 +1217,6 @@ public final class HallTables {
             town = newTown;
             home = newTown.home[man];
             start = state;
-        }
-
-        void findAll() {
-            find(MINUTES, TO_ALL, NONE, NONE);
         }
 
         /** Whether there is a WAY; what was found last is kept, for one WAY is mostly asked for step by step. */
@@ -1396,7 +1389,7 @@ public final class HallTables {
             }
         }
 
-        /** Behind findAll(). */
+        /** Behind find() of all. */
         int housesFound() {
             int bits = 0;
             for (int i = 0; i < settled; i++) {
@@ -1405,7 +1398,7 @@ public final class HallTables {
             return bits;
         }
 
-        /** Behind findAll(). */
+        /** Behind find() of all. */
         int mostAt(int house) {
             int most = NEVER;
             for (int i = 0; i < settled; i++) {
@@ -1416,7 +1409,7 @@ public final class HallTables {
             return most;
         }
 
-        /** Behind findAll(): adds the fewest MINUTES to each HOUSE; below 0 where one can't come. */
+        /** Behind find() of all: adds the fewest MINUTES to each HOUSE; below 0 where one can't come. */
         void addMinutes() {
             int found = 0;
             for (int i = 0; i < settled; i++) {
@@ -1440,7 +1433,7 @@ public final class HallTables {
 
         private int[] here = new int[MAX_HOUSES << MAX_HOUSES];
         private int[] next = new int[MAX_HOUSES << MAX_HOUSES];
-        private Town town = null;
+        private Town town = new Town();
         private int home;
         private int set;
 
@@ -1553,9 +1546,6 @@ public final class HallTables {
             System.arraycopy(stock, 0, unsent, 0, houses);
             int sum = unsent[target];
             unsent[target] = 0;
-            for (int layer = 0; layer < calls; layer++) {
-                stay[layer * MAX_HOUSES + target] = sum;
-            }
             for (int i = 0; i <= MAX_CALLS && sendOne(); i++) {
                 sum++;
             }
@@ -1618,7 +1608,7 @@ public final class HallTables {
             }
         }
 
-        /** From which nodes one thing more can go on to the end. */
+        /** From which nodes one thing more can go on to the end, behind flow(). */
         private void spreadBack() {
             Arrays.fill(leadsOn, UNSEEN);
             queued = 0;
@@ -1652,10 +1642,12 @@ public final class HallTables {
             }
         }
 
-        /** One CALL more brings at most one thing more: it helps if a thing can come to it and can go on from it. */
+        /**
+         * One CALL more brings at most one thing more: it helps if a thing can come to it and can go on from it.
+         * To where things can come flow() has found when it tried to send one too many.
+         */
         int help(Town town, int what) {
             int sum = flow();
-            spread();
             spreadBack();
             for (int place = 0; place <= calls; place++) {
                 for (int man = 0; man < town.men; man++) {

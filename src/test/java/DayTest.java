@@ -91,6 +91,16 @@ final class DayTest {
         DUE.is(25, "c with", t.helps(0, 2, 0), 1);
     }
 
+    /** What comes by the CALL more takes the way that another thing had, and that one takes another way. */
+    private static void helpsByGivingWay() {
+        HallTables t = Feeder.town("sort s 1; house a; house b; house c; house d; man x a; man y c: s 1; man z d: s 1;"
+                + "man w d; call w b; call z a; call x b;");
+        int[] due = {2, 0, 1, 0};
+        for (int what = 0; what < 4; what++) {
+            DUE.is(25, "helps(0, 1, " + what + ")", t.helps(0, 1, what), due[what]);
+        }
+    }
+
     private static void turned() {
         HallTables t = Feeder.town("sort s 1; sort t 1; house a; house b; house c; man x a: s 1; man y b;"
                 + "call y c; call x b;");
@@ -211,6 +221,7 @@ final class DayTest {
         day();
         helps();
         helpsLate();
+        helpsByGivingWay();
         turned();
         year();
         owed();
