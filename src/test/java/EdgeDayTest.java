@@ -216,6 +216,25 @@ final class EdgeDayTest {
         }
     }
 
+    private static void lotOfTen() {
+        EDGE.says(27, "h becomes (h and it, each bit of which is in just one) times 1103515245 and 12345 more,"
+                + " then h and h moved 15 bits down (zeros come in), likewise");
+        // LOT 10 of these SEEDS and 0, reckoned by another program: nine HOUSES, worth 1 to 9 there, the tenth: he stays.
+        int[][] ten = {{0, 6}, {1, 3}, {2, 2}, {23, 1}, {-1, 3}, {-23, 7}, {LEAST, 9}, {GREATEST, 4},
+            {65535, 6}, {65536, 9}, {1103515245, 7}, {12345, 5}, {77, 0}, {-1000000007, 2}};
+        StringBuilder nine = new StringBuilder("sort s 99;house a;");
+        for (int house = 1; house < 10; house++) {
+            char name = (char) ('a' + house);
+            nine.append("house ").append(name).append(";door a ").append(name).append(" 1;worth ").append(name).append(" s ")
+                    .append(house).append(';');
+        }
+        HallTables wide = Feeder.town(nine + "man m a:s 3;");
+        for (int[] row : ten) {
+            int goes = row[1] < 9 ? 1 : 0;
+            yearIs(wide, row[0], 1, goes, goes * (row[1] + 1), 3 - goes, 1 - goes);
+        }
+    }
+
     private static void yearIs(HallTables t, int seed, int days, int... due) {
         for (int what = 0; what < 4; what++) {
             EDGE.is("year(" + seed + ", " + days + ", " + what + ")", t.year(seed, days, what), due[what]);
@@ -340,6 +359,7 @@ final class EdgeDayTest {
         helps();
         turned();
         lots();
+        lotOfTen();
         year();
         rest();
         EDGE.end();

@@ -52,7 +52,7 @@ final class EdgeSeenTest {
     }
 
     private static void knownByK() {
-        EDGE.says(31, "as KNOWN by k; -1: no such k.");
+        EDGE.says(31, "as KNOWN by k: the first k of those told, 30 at most");
         HallTables t = Feeder.town(ABC + "man m a:s 1;");
         fitsIs(t, 0, 3);
         fitsIs(t, 1, -1);

@@ -31,6 +31,7 @@ final class EdgeTownTest {
         EDGE.says(6, "MINUTES of the DOOR between two HOUSES; 0: there is none; NONE: no such ones, one and the same.");
         HallTables t = Feeder.town(widest());
         EDGE.is("a b", t.door(0, 1), 99);
+        EDGE.says(6, "DOORS (both ways; MINUTES 1 .. 99;");
         EDGE.is("b a", t.door(1, 0), 99);
         EDGE.is("j a", t.door(9, 0), 90);
         EDGE.is("a j", t.door(0, 9), 90);
@@ -274,11 +275,15 @@ final class EdgeTownTest {
 
     private static HallTables toAndFro(int steps) {
         HallTables t = Feeder.town("sort s 1;house a;house b;door a b 2;shop b s;man m a:s 3;");
-        for (int step = 0; step < steps; step++) {
+        step(t, 0, steps);
+        return t;
+    }
+
+    private static void step(HallTables t, int from, int steps) {
+        for (int step = from; step < from + steps; step++) {
             int kind = step % 3;
             EDGE.is("step " + step, kind == 0 ? t.go(0, 1, 0) : kind == 1 ? t.buy(0, 0) : t.go(0, 0, -1), 0);
         }
-        return t;
     }
 
     private static void undo() {
@@ -293,6 +298,21 @@ final class EdgeTownTest {
             }
             EDGE.is("one more", t.undo(), false);
             EDGE.same("of " + steps + " steps what stays", withoutSteps(t), withoutSteps(toAndFro(steps - can)));
+        }
+        for (int again : new int[] {1, 18, 19, 20, 21, 59, 60, 61, 99}) {
+            HallTables t = toAndFro(99);
+            for (int i = 0; i < 18; i++) {
+                EDGE.is("undo of the last 18", t.undo(), true);
+            }
+            EDGE.is("of 60 there are", t.count(7), 42);
+            step(t, 81, again);
+            int can = Math.min(42 + again, 60);
+            EDGE.is("then", t.count(7), can);
+            for (int i = 0; i < can; i++) {
+                EDGE.is("undo", t.undo(), true);
+            }
+            EDGE.is("one more", t.undo(), false);
+            EDGE.same("behind " + again + " more what stays", withoutSteps(t), withoutSteps(toAndFro(81 + again - can)));
         }
         HallTables t = Feeder.town(LINE + "man m a:s 1;man n b:t 1;");
         EDGE.is("m", t.go(0, 1, 0), 0);

@@ -270,7 +270,7 @@ final class EdgeWayTest {
         ridIs(t, 0, 0, 2, 2, 8, 0);
         EDGE.is("m goes to b", t.go(0, 1, 0), 0);
         ridIs(t, 0, 0, 0, 0, 0, 0);
-        EDGE.says(17, "-2: it can't be; NONE: no such ones.");
+        EDGE.says(17, "RID by 0 .. 2: what 0 DOORS, 1 MINUTES, 2 LOSS; -2: it can't be; NONE: no such ones.");
         t = Feeder.town(AB + "man m c:s 1;man n c;man o a:s 3;");
         for (int by = 0; by < 3; by++) {
             ridIs(t, 1, 0, by, 0, 0, 0);
